@@ -98,7 +98,7 @@ public final class Kneadery {
         needRange(n, 0, MOST_STEP);
         lastOrbit.run(rules.get(map), p, q);
         int at = lastOrbit.indexOf(n);
-        if (at == NONE) {
+        if (at < 0 || at >= lastOrbit.size) {
             throw new IllegalStateException("no such point");
         }
         return (int) (isBelow ? lastOrbit.below[at] : lastOrbit.above[at]);
@@ -401,13 +401,13 @@ public final class Kneadery {
         }
 
         /** The number below the line is taken to be above 0. */
-        private void become(long newAbove, long newBelow) {
+        void become(long newAbove, long newBelow) {
             long divisor = commonDivisor(newAbove < 0 ? -newAbove : newAbove, newBelow);
             above = divisor > 1 ? newAbove / divisor : newAbove;
             below = divisor > 1 ? newBelow / divisor : newBelow;
         }
 
-        private void becomeTooLong() {
+        void becomeTooLong() {
             above = MOST_IN_FRACTION + 1L;
             below = 1;
         }

@@ -12,8 +12,9 @@ public final class FaceTest {
 
     private static final String[] METHODS = {"int straight()", "int node(int,int,int,int,int)", "int squared(int,int)",
         "int mapOf(int)", "int orbit(int,int,int,int)", "int point(int,int,int,int,boolean)", "boolean forces(int,int)",
-        "int pattern(int)", "int images(int)", "boolean covers(int,int,int)", "long ways(int,int)", "int loops(int,int)",
-        "int loopsAnew(int,int)", "int word(int,int)", "char letter(int,int)", "int compare(int,int)",
+        "int pattern(int)", "int images(int)", "boolean covers(int,int,int)", "long ways(int,int)",
+        "int loops(int,int)", "int loopsAnew(int,int)", "int word(int,int)", "char letter(int,int)",
+        "int compare(int,int)",
         "boolean isGreatest(int)", "int count(int)", "int countAnew(int)", "int product(int,int)", "int factor(int)",
         "int patternOf(int)", "int angle(int,int,boolean)", "int turn(int,int,int)", "int address(int,int,int)",
         "int companion(int,int)", "int remainder(int,int,int,boolean)", "int onCycles(int,int)"};

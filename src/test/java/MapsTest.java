@@ -242,6 +242,12 @@ public final class MapsTest {
         CHECK.due(7, "point 0 of 6/4, above", 3, () -> x.point(0, 6, 4, 0, false));
         CHECK.due(7, "point 0 of 6/4, below", 2, () -> x.point(0, 6, 4, 0, true));
         CHECK.due(7, "point 0 of -6/4", -3, () -> x.point(0, -6, 4, 0, false));
+        int[][] edges = {{9999, 1}, {-9999, 1}, {1, 9999}, {9998, 9999}, {-9998, 9999}, {9999, 9998}};
+        for (int[] e : edges) {
+            CHECK.due(6, "orbit of " + e[0] + "/" + e[1], Kneadery.LOST, () -> x.orbit(0, e[0], e[1], 0));
+            CHECK.due(7, "point 0 of " + e[0] + "/" + e[1], e[0], () -> x.point(0, e[0], e[1], 0, false));
+            CHECK.due(7, "point 0 below " + e[0] + "/" + e[1], e[1], () -> x.point(0, e[0], e[1], 0, true));
+        }
         CHECK.due(7, "point 0 of 0/77", 1, () -> x.point(0, 0, 77, 0, true));
         CHECK.throwing(7, "point 1000 of 2", Check.STATE, () -> x.point(0, 2, 1, 1000, false));
         CHECK.throwing(7, "point 1 without nodes", Check.STATE, () -> x.point(1, 2, 1, 1, true));
@@ -323,52 +329,36 @@ public final class MapsTest {
         CHECK.due(7, "tenths from -3", -3, () -> x.point(0, -3, 1, 9, false));
         compareOrbit(x, 0, tenth, -7, 1, 12);
 
-        int[][] exact = lengthCases(1000000000L, 1000000000L);
-        int[][] longer = lengthCases(1000000001L, 1000000040L);
-        lengthRow(exact, Kneadery.NONE);
-        lengthRow(longer, Kneadery.LOST);
+        // Starts and c whose point 1 has just that number above the line, found by going through all.
+        int[][] most = {{8770, 21, 300, 13}, {4940, 37, -400, 41}, {4609, 43, 857, 47}, {5675, 51, 625, 31}};
+        int[][] least = {{663, 1069, -907, 83}, {773, 1089, -879, 71}, {1204, 1159, -752, 7}, {2956, 1159, -816, 11}};
+        int[][] above = {{5000, 1, 1, 40}, {4939, 12, -990, 41}, {4939, 18, -440, 41}, {3353, 30, -658, 89}};
+        int[][] below = {{405, 1081, -866, 73}, {44, 1101, -825, 34}, {1055, 1132, -849, 79}, {1411, 1146, -863, 67}};
+        notTooLong(most, 1000000000);
+        notTooLong(least, -1000000000);
+        tooLong(above);
+        tooLong(below);
     }
 
-    private static void lengthRow(int[][] cases, int end) {
+    private static void notTooLong(int[][] cases, int want) {
         for (int[] c : cases) {
             Kneadery x = new Kneadery();
             x.squared(c[2], c[3]);
-            MapOracle oracle = new MapOracle(c[2], c[3]);
-            compareOrbit(x, 0, oracle, c[0], c[1], 1);
-            if (end == Kneadery.LOST) {
-                CHECK.due(6, "lost at once", 1, () -> x.orbit(0, c[0], c[1], 1));
-            } else {
-                CHECK.due(7, "1000000000 above the line", 1000000000,
-                        () -> Math.abs(x.point(0, c[0], c[1], 1, false)));
-            }
+            CHECK.due(7, "the point 1", want, () -> x.point(0, c[0], c[1], 1, false));
+            CHECK.due(7, "of the other sign", want, () -> x.point(0, -c[0], c[1], 1, false));
+            CHECK.due(6, "it has two points", 2, () -> x.orbit(0, c[0], c[1], 1));
+            compareOrbit(x, 0, new MapOracle(c[2], c[3]), c[0], c[1], 1);
         }
     }
 
-    /** Some starts and c whose next point has a number from least to most above the line. */
-    private static int[][] lengthCases(long least, long most) {
-        int[][] found = new int[12][];
-        int size = 0;
-        for (int q = 1; q <= 99 && size < found.length; q += 7) {
-            for (int b = 1; b <= 9999 && size < found.length; b += 31) {
-                for (int p = -999; p <= 999 && size < found.length; p += 13) {
-                    long rest = most - (long) p * b * b;
-                    if (rest < 0) {
-                        continue;
-                    }
-                    int a = (int) Math.min(9999, (long) Math.sqrt((double) rest / q));
-                    long above = (long) a * a * q + (long) p * b * b;
-                    long below = (long) b * b * q;
-                    if (above >= least && above <= most && gcd(above, below) == 1 && gcd(a, b) == 1) {
-                        found[size++] = new int[] {a, b, p, q};
-                    }
-                }
-            }
+    private static void tooLong(int[][] cases) {
+        for (int[] c : cases) {
+            Kneadery x = new Kneadery();
+            x.squared(c[2], c[3]);
+            CHECK.throwing(7, "the point 1", Check.STATE, () -> x.point(0, c[0], c[1], 1, false));
+            CHECK.due(6, "it is lost", Kneadery.LOST, () -> x.orbit(0, c[0], c[1], 0));
+            CHECK.due(6, "it is lost at once", 0, () -> x.orbit(0, -c[0], c[1], 3));
         }
-        return java.util.Arrays.copyOf(found, size);
-    }
-
-    private static long gcd(long a, long b) {
-        return b == 0 ? Math.abs(a) : gcd(b, a % b);
     }
 
     private static void squaredByHand() {

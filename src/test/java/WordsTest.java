@@ -341,7 +341,8 @@ public final class WordsTest {
             int pattern = numbers.between(0, (1 << block) - 1);
             int set = 0;
             for (int place = 0; place < letters; place++) {
-                set |= (place % (block + 1) == block ? numbers.between(0, 1) : pattern >> place % (block + 1) & 1) << place;
+                int rest = place % (block + 1);
+                set |= (rest == block ? numbers.between(0, 1) : pattern >> rest & 1) << place;
             }
             set ^= i % 4 == 0 ? 1 << numbers.between(0, letters - 1) : 0;
             Kneadery x = new Kneadery();
