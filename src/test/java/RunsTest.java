@@ -1,7 +1,7 @@
 /** Long runs: what is asked, and a call that throws, changes nothing, so a fresh object answers the same. */
 public final class RunsTest {
     private static final Check CHECK = new Check();
-    private static final int KINDS = 22;
+    private static final int KINDS = 27;
 
     public static void main(String[] args) {
         for (int seed = 1; seed <= 12; seed++) {
@@ -49,7 +49,10 @@ public final class RunsTest {
     /** A thrown exception counts as a number of its own. */
     private static long answer(Kneadery x, int kind, int a, int b, int c, int d) {
         try {
-            return kind < 11 ? first(x, kind, a, b, c, d) : second(x, kind, a, b, c, d);
+            if (kind < 11) {
+                return first(x, kind, a, b, c, d);
+            }
+            return kind < 20 ? second(x, kind, a, b, c, d) : refused(x, kind, a, b, c);
         } catch (IndexOutOfBoundsException e) {
             return -1000001;
         } catch (IllegalArgumentException e) {
@@ -86,7 +89,6 @@ public final class RunsTest {
         }
     }
 
-    /** The last three are told wrongly in all runs, and so refused. */
     private static long second(Kneadery x, int kind, int a, int b, int c, int d) {
         switch (kind) {
             case 11:
@@ -105,12 +107,28 @@ public final class RunsTest {
                 return x.address(b, c, a);
             case 18:
                 return x.companion(b, 2 * c + 1);
-            case 19:
-                return x.remainder(13, c, b, d > 2) + x.onCycles(11, c);
-            case 20:
-                return x.node(a, b, 1, 0, 0) + x.squared(b, 0) + x.pattern(b);
             default:
-                return x.product(11, 10) + x.patternOf(0) + x.mapOf(6) + x.word(25 + c, 0);
+                return x.remainder(13, c, b, d > 2) + x.onCycles(11, c);
+        }
+    }
+
+    /** What would tell or make something, but always throws. */
+    private static long refused(Kneadery x, int kind, int a, int b, int c) {
+        switch (kind) {
+            case 20:
+                return x.node(a, b, 1, 0, 0);
+            case 21:
+                return x.node(0, b % 2, 1, 0, 1);
+            case 22:
+                return x.squared(b, 0);
+            case 23:
+                return x.pattern(b);
+            case 24:
+                return x.product(11, 10);
+            case 25:
+                return c > 3 ? x.patternOf(0) : x.mapOf(6);
+            default:
+                return x.word(26 + c, 0);
         }
     }
 }
