@@ -32,7 +32,10 @@ final class Check {
         }
     }
 
-    /** The very class is due, since a class below it is another exception than the document names. */
+    /**
+     * The very class is due, since a class below it is another exception than the document names; and the program
+     * itself must have thrown it, not the library or the machine.
+     */
     void throwing(int promise, String call, Class<?> want, Call got) {
         checked++;
         try {
@@ -41,8 +44,15 @@ final class Check {
         } catch (RuntimeException e) {
             if (e.getClass() != want) {
                 tell(promise, call + " threw " + e + ", due is " + want.getSimpleName());
+            } else if (!isThrownByProgram(e)) {
+                tell(promise, call + " threw " + e + ", but the program did not throw it itself");
             }
         }
+    }
+
+    private static boolean isThrownByProgram(RuntimeException e) {
+        StackTraceElement[] trace = e.getStackTrace();
+        return trace.length > 0 && trace[0].getClassName().startsWith("Kneadery");
     }
 
     private void tell(int promise, String text) {
