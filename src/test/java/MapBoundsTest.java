@@ -5,6 +5,7 @@ public final class MapBoundsTest {
     public static void main(String[] args) {
         newObjectHasNothing();
         newObjectAnswersWhatNeedsNothing();
+        objectUpToItsLastCall();
         straightUpToTwelve();
         straightAmongOthers();
         nodeOfNoSuchMap();
@@ -78,6 +79,24 @@ public final class MapBoundsTest {
         CHECK.due(1, "companion", 2, () -> x.companion(1, 3));
         CHECK.due(1, "remainder", 1, () -> x.remainder(2, 0, 0, true));
         CHECK.due(1, "onCycles", 2, () -> x.onCycles(2, 0));
+    }
+
+    /** Up to the call 512, the dearest ones among them. */
+    private static void objectUpToItsLastCall() {
+        Kneadery x = new Kneadery();
+        x.pattern(87653214);
+        x.mapOf(0);
+        int first = x.loopsAnew(0, 6);
+        for (int call = 4; call <= 512; call++) {
+            int at = call;
+            switch (call % 5) {
+                case 0 -> CHECK.due(1, "call " + at, first, () -> x.loopsAnew(0, 6));
+                case 1 -> CHECK.due(1, "call " + at, 8, () -> x.orbit(0, 1, 1, 2));
+                case 2 -> CHECK.due(1, "call " + at, 64, () -> x.address(1, 2, 63));
+                case 3 -> CHECK.due(1, "call " + at, 1018, () -> x.angle(1, 1019, true));
+                default -> CHECK.due(1, "call " + at, 253, () -> x.companion(254, 255));
+            }
+        }
     }
 
     // ---- promise 2
