@@ -1,11 +1,9 @@
-import java.util.ArrayList;
 import java.util.List;
 
 /** Promises 24 to 27: angles. */
 public final class AnglesTest {
     private static final Check CHECK = new Check();
-    /** By period: the companion of each angle, by the number above the line; 0 for none. */
-    private static final int[][] PARTNERS = new int[9][];
+    private static final int[][] PARTNERS = AngleOracle.PARTNERS;
 
     public static void main(String[] args) {
         wrong();
@@ -15,7 +13,7 @@ public final class AnglesTest {
         addressesByHand();
         addresses();
         companionsByHand();
-        joinAll();
+        CHECK.due(27, "the test's own pairs", 235, () -> AngleOracle.pairs());
         companions();
         companionFirst();
         companionOfNone();
@@ -47,18 +45,6 @@ public final class AnglesTest {
         CHECK.due(25, "turn(1, 7, 1000)", 1, () -> x.turn(1, 7, 1000));
     }
 
-    /** The row of points as texts of p, all by q. */
-    private static List<Integer> points(int p, int q) {
-        List<Integer> row = new ArrayList<>();
-        int at = p;
-        while (!row.contains(at)) {
-            row.add(at);
-            at = at + at >= q ? at + at - q : at + at;
-        }
-        row.add(row.indexOf(at));
-        return row;
-    }
-
     private static void allAngles() {
         for (int q = 1; q <= 1023; q += q < 70 ? 1 : 37) {
             Kneadery x = null;
@@ -77,9 +63,8 @@ public final class AnglesTest {
     }
 
     private static void compareAngle(Kneadery x, int p, int q) {
-        List<Integer> row = points(p, q);
-        int ahead = row.get(row.size() - 1);
-        int period = row.size() - 1 - ahead;
+        int ahead = AngleOracle.ahead(p, q);
+        int period = AngleOracle.period(p, q);
         CHECK.due(24, "angle(" + p + ", " + q + ", false)", ahead, () -> x.angle(p, q, false));
         CHECK.due(24, "angle(" + p + ", " + q + ", true)", period, () -> x.angle(p, q, true));
     }
@@ -88,24 +73,11 @@ public final class AnglesTest {
         Kneadery x = new Kneadery();
         int[][] rows = {{0, 1, 1, 2}, {0, 1, 1000, 2}, {0, 2, 1, 2}, {1, 2, 1, 1}, {1, 2, 2, 0}, {1, 7, 1, 1},
             {1, 7, 3, 2}, {1, 7, 6, 2}, {3, 7, 1, 1}, {3, 7, 2, 0}, {3, 7, 3, 2}, {1, 6, 1, 1}, {1, 6, 2, 1},
-            {1, 6, 3, 0}, {1, 6, 4, 1}, {1, 6, 1000, 1}, {1, 6, 999, 0}, {1, 3, 1, 1}, {1, 3, 2, 2}, {2, 3, 1, 1}, {2, 3, 2, 2},
-            {1022, 1023, 1, 1}, {1022, 1023, 10, 2}, {1022, 1023, 1000, 2}};
+            {1, 6, 3, 0}, {1, 6, 4, 1}, {1, 6, 1000, 1}, {1, 6, 999, 0}, {1, 3, 1, 1}, {1, 3, 2, 2}, {2, 3, 1, 1},
+            {2, 3, 2, 2}, {1022, 1023, 1, 1}, {1022, 1023, 10, 2}, {1022, 1023, 1000, 2}};
         for (int[] r : rows) {
             CHECK.due(25, "turn(" + r[0] + ", " + r[1] + ", " + r[2] + ")", r[3], () -> x.turn(r[0], r[1], r[2]));
         }
-    }
-
-    /** With fractions by 2 q: t's halves are p and p + q. */
-    private static int turn(int p, int q, int k) {
-        List<Integer> row = points(p, q);
-        int ahead = row.get(row.size() - 1);
-        int period = row.size() - 1 - ahead;
-        int n = k - 1;
-        while (n >= row.size() - 1) {
-            n -= period;
-        }
-        int twice = 2 * row.get(n);
-        return twice == p || twice == p + q ? 2 : p < twice && twice < p + q ? 1 : 0;
     }
 
     private static void turnsFar() {
@@ -119,7 +91,8 @@ public final class AnglesTest {
             int p = numbers.between(0, q - 1);
             int k = i % 2 == 0 ? numbers.between(1, 20) : numbers.between(1, 1000);
             Kneadery y = x;
-            CHECK.due(25, "turn(" + p + ", " + q + ", " + k + ")", turn(p, q, k), () -> y.turn(p, q, k));
+            int want = AngleOracle.turn(p, q, k);
+            CHECK.due(25, "turn(" + p + ", " + q + ", " + k + ")", want, () -> y.turn(p, q, k));
         }
     }
 
@@ -139,26 +112,6 @@ public final class AnglesTest {
         CHECK.due(26, "1/6 at 2", 5, () -> x.address(1, 6, 2));
     }
 
-    private static List<Integer> address(int p, int q) {
-        int[] letter = new int[65];
-        for (int k = 1; k <= 64; k++) {
-            letter[k] = turn(p, q, k);
-        }
-        List<Integer> row = new ArrayList<>();
-        int s = 1;
-        while (s > 0) {
-            row.add(s);
-            int next = 0;
-            for (int i = 64; i > s && letter[s] != 2; i--) {
-                if (letter[i] == 2 || letter[i] != letter[i - s]) {
-                    next = i;
-                }
-            }
-            s = next;
-        }
-        return row;
-    }
-
     private static void addresses() {
         for (int q = 1; q <= 1023; q += q < 34 ? 1 : q < 900 ? 29 : 3) {
             for (int p = 0; p < q; p += q < 34 ? 1 : q / 9) {
@@ -169,7 +122,7 @@ public final class AnglesTest {
 
     private static void compareAddress(int p, int q) {
         Kneadery x = new Kneadery();
-        List<Integer> row = address(p, q);
+        List<Integer> row = AngleOracle.address(p, q);
         for (int i = 0; i <= row.size() + 1; i++) {
             int place = i;
             CHECK.due(26, "address(" + p + ", " + q + ", " + place + ")",
@@ -191,49 +144,6 @@ public final class AnglesTest {
                 CHECK.due(27, "companion(" + pair[1] + ", " + q + ")", pair[0], () -> x.companion(pair[1], q));
             }
         }
-    }
-
-    /** By the document's words, with fractions as (number above, number below), compared crosswise. */
-    private static void joinAll() {
-        List<int[]> joined = new ArrayList<>();
-        for (int period = 2; period <= 8; period++) {
-            int q = (1 << period) - 1;
-            List<Integer> left = new ArrayList<>();
-            for (int p = 0; p < q; p++) {
-                List<Integer> row = points(p, q);
-                if (row.size() - 1 == period && row.get(row.size() - 1) == 0) {
-                    left.add(p);
-                }
-            }
-            PARTNERS[period] = new int[q];
-            while (!left.isEmpty()) {
-                int lowest = left.remove(0);
-                for (int i = 0; i < left.size(); i++) {
-                    int other = left.get(i);
-                    if (isApart(joined, lowest, other, q)) {
-                        left.remove(i);
-                        joined.add(new int[] {lowest, other, q});
-                        PARTNERS[period][lowest] = other;
-                        PARTNERS[period][other] = lowest;
-                        break;
-                    }
-                }
-            }
-        }
-        CHECK.due(27, "the test's own pairs", 235, () -> joined.size());
-    }
-
-    private static boolean isApart(List<int[]> joined, int low, int high, int q) {
-        for (int[] pair : joined) {
-            int inside = 0;
-            for (int end = 0; end < 2; end++) {
-                inside += pair[end] * q > low * pair[2] && pair[end] * q < high * pair[2] ? 1 : 0;
-            }
-            if (inside == 1) {
-                return false;
-            }
-        }
-        return true;
     }
 
     /** Every fraction, in its shortest form and in longer ones. */

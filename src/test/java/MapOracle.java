@@ -81,6 +81,18 @@ final class MapOracle {
         return this;
     }
 
+    boolean isStraight() {
+        return !isSquared;
+    }
+
+    int nodes() {
+        return places.size();
+    }
+
+    boolean isBehindAll(int p, int q) {
+        return places.stream().allMatch(place -> Part.of(p, q).minus(place).sign() > 0);
+    }
+
     /** What the map makes of x; null where it is not told. */
     private Part made(Part x) {
         if (isSquared) {

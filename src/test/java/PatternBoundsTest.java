@@ -38,7 +38,8 @@ public final class PatternBoundsTest {
 
     private static void forces(int period, int other, boolean want) {
         Kneadery x = new Kneadery();
-        CHECK.due(8, "forces(" + period + ", " + other + ")", Check.one(want), () -> Check.one(x.forces(period, other)));
+        String name = "forces(" + period + ", " + other + ")";
+        CHECK.due(8, name, Check.one(want), () -> Check.one(x.forces(period, other)));
     }
 
     /** The one that is ahead forces the other one, which does not force it. */
@@ -335,26 +336,8 @@ public final class PatternBoundsTest {
         for (int pattern = 0; pattern < 3; pattern++) {
             int k = pattern;
             String images = new String[] {"24153", "362514", "46182735"}[k];
-            CHECK.due(12, "by the test's own count, " + images, ways(images, 20), () -> x.ways(k, 20));
+            CHECK.due(12, "by the test's own count, " + images, PatternOracle.ways(images, 20), () -> x.ways(k, 20));
         }
-    }
-
-    private static long ways(String images, int n) {
-        int pieces = images.length() - 1;
-        long[] to = new long[pieces];
-        java.util.Arrays.fill(to, 1);
-        for (int i = 1; i < n; i++) {
-            long[] next = new long[pieces];
-            for (int from = 0; from < pieces; from++) {
-                int low = Math.min(images.charAt(from), images.charAt(from + 1)) - '1';
-                int high = Math.max(images.charAt(from), images.charAt(from + 1)) - '1';
-                for (int at = low; at < high; at++) {
-                    next[at] += to[from];
-                }
-            }
-            to = next;
-        }
-        return java.util.Arrays.stream(to).sum();
     }
 
     // ---- promises 13 and 14

@@ -1,7 +1,5 @@
 import java.util.ArrayList;
-import java.util.HashSet;
 import java.util.List;
-import java.util.Set;
 
 /** Promises 8 to 14: periods and patterns. */
 public final class PatternsTest {
@@ -37,15 +35,7 @@ public final class PatternsTest {
     /** The order as it is told, of all periods up to 130. */
     private static void forcesByRow() {
         int most = 130;
-        List<Integer> row = new ArrayList<>();
-        for (int power = 1; power <= most; power *= 2) {
-            for (int odd = 3; odd * power <= most; odd += 2) {
-                row.add(odd * power);
-            }
-        }
-        for (int power = 128; power >= 1; power /= 2) {
-            row.add(power);
-        }
+        List<Integer> row = PatternOracle.periods(most);
         Kneadery x = new Kneadery();
         int calls = 0;
         for (int i = 0; i < most; i++) {
@@ -216,71 +206,29 @@ public final class PatternsTest {
         Kneadery x = new Kneadery();
         CHECK.due(9, "pattern(" + digits + ")", 0, () -> x.pattern(digits));
         CHECK.due(10, "images of it", digits, () -> x.images(0));
-        String text = Integer.toString(digits);
-        boolean[][] covers = new boolean[points][points];
+        String images = Integer.toString(digits);
         for (int from = 1; from < points; from++) {
             for (int to = 1; to < points; to++) {
-                int one = text.charAt(from - 1) - '0';
-                int two = text.charAt(from) - '0';
-                covers[from][to] = one <= to && two >= to + 1 || two <= to && one >= to + 1;
                 int piece = from;
                 int other = to;
-                CHECK.due(11, digits + " covers " + from + " " + to, Check.one(covers[from][to]),
-                        () -> Check.one(x.covers(0, piece, other)));
+                long want = Check.one(PatternOracle.covers(images, piece, other));
+                CHECK.due(11, digits + " covers " + from + " " + to, want, () -> Check.one(x.covers(0, piece, other)));
             }
         }
-        long[][] ends = new long[21][points];
         for (int n = 1; n <= 20; n++) {
-            long sum = 0;
-            for (int to = 1; to < points; to++) {
-                for (int from = 1; from < points; from++) {
-                    ends[n][to] += n == 1 ? (from == 1 ? 1 : 0) : covers[from][to] ? ends[n - 1][from] : 0;
-                }
-                sum += ends[n][to];
-            }
             if (n < 4 || n == 20 || (n + turn) % 5 == 0) {
                 int length = n;
-                CHECK.due(12, "ways of " + digits + ", " + n, sum, () -> x.ways(0, length));
+                long want = PatternOracle.ways(images, n);
+                CHECK.due(12, "ways of " + digits + ", " + n, want, () -> x.ways(0, length));
             }
         }
         int most = points <= 6 || turn % 5 == 0 ? 6 : 4;
         for (int n = 1; n <= most; n++) {
             int length = n;
-            long want = loops(covers, n);
+            long want = PatternOracle.loops(images, n);
             CHECK.due(13, "loops of " + digits + ", " + n, want, () -> x.loops(0, length));
             CHECK.due(14, "loops of " + digits + " anew, " + n, want, () -> x.loopsAnew(0, length));
         }
-    }
-
-    /** Loops as texts, each kept by the least of its turned texts; those of a shorter one again and again are left. */
-    private static long loops(boolean[][] covers, int n) {
-        Set<String> found = new HashSet<>();
-        List<String> ways = new ArrayList<>();
-        for (int first = 1; first < covers.length; first++) {
-            ways.add("" + first);
-        }
-        for (int i = 1; i < n; i++) {
-            List<String> longer = new ArrayList<>();
-            for (String way : ways) {
-                for (int to = 1; to < covers.length; to++) {
-                    if (covers[way.charAt(way.length() - 1) - '0'][to]) {
-                        longer.add(way + to);
-                    }
-                }
-            }
-            ways = longer;
-        }
-        for (String way : ways) {
-            if (covers[way.charAt(n - 1) - '0'][way.charAt(0) - '0'] && (way + way).indexOf(way, 1) == n) {
-                String least = way;
-                for (int by = 1; by < n; by++) {
-                    String turned = way.substring(by) + way.substring(0, by);
-                    least = turned.compareTo(least) < 0 ? turned : least;
-                }
-                found.add(least);
-            }
-        }
-        return found.size();
     }
 
     private static void askingChangesNothing() {

@@ -1,8 +1,9 @@
 /** The boundary cases of promises 28 and 29, one test for each sentence that names one. */
 public final class RemainderBoundsTest {
     private static final Check CHECK = new Check();
-    private static final int[] NO_PRIMES = {-997, -7, -2, -1, 0, 1, 4, 6, 8, 9, 15, 25, 49, 121, 169, 289, 361, 529, 841,
-        961, 989, 993, 995, 996, 998, 999, 1000, 1001, 1009, 1013, 1024, 65537, 994009, Check.LOWEST, Check.HIGHEST};
+    private static final int[] NO_PRIMES = {-997, -7, -2, -1, 0, 1, 4, 6, 8, 9, 15, 25, 49, 121, 169, 289, 361, 529,
+        841, 961, 989, 993, 995, 996, 998, 999, 1000, 1001, 1009, 1013, 1024, 65537, 994009,
+        Check.LOWEST, Check.HIGHEST};
 
     public static void main(String[] args) {
         primesLeastAndGreatest();
@@ -107,29 +108,14 @@ public final class RemainderBoundsTest {
         Kneadery x = new Kneadery();
         for (int prime : new int[] {991, 997}) {
             for (int c : new int[] {0, 1, 2, prime / 2, prime - 2, prime - 1}) {
-                int found = 0;
-                for (int from = 0; from < prime; from++) {
-                    found += walk(prime, c, from)[0] == 0 ? 1 : 0;
-                }
-                int want = found;
+                int want = RemainderOracle.onCycles(prime, c);
                 CHECK.due(29, "onCycles(" + prime + ", " + c + ")", want, () -> x.onCycles(prime, c));
             }
         }
     }
 
-    /** The ahead and the period, by going on until a number comes twice. */
-    private static int[] walk(int prime, int c, int from) {
-        java.util.List<Integer> row = new java.util.ArrayList<>();
-        int at = from;
-        while (!row.contains(at)) {
-            row.add(at);
-            at = (at * at + c) % prime;
-        }
-        return new int[] {row.indexOf(at), row.size() - row.indexOf(at)};
-    }
-
     private static void compare(Kneadery x, int prime, int c, int from) {
-        int[] walk = walk(prime, c, from);
+        int[] walk = RemainderOracle.walk(prime, c, from);
         String name = "remainder(" + prime + ", " + c + ", " + from + ")";
         CHECK.due(28, name + ", ahead", walk[0], () -> x.remainder(prime, c, from, false));
         CHECK.due(28, name + ", period", walk[1], () -> x.remainder(prime, c, from, true));

@@ -1,6 +1,3 @@
-import java.util.HashMap;
-import java.util.Map;
-
 /** Promises 28 and 29: remainders. */
 public final class RemaindersTest {
     private static final Check CHECK = new Check();
@@ -33,15 +30,6 @@ public final class RemaindersTest {
         CHECK.due(28, "remainder(997, 996, 996)", 1, () -> x.remainder(997, 996, 996, true) > 0 ? 1 : 0);
     }
 
-    private static boolean isPrime(int n) {
-        for (int d = 2; d < n; d++) {
-            if (n % d == 0) {
-                return false;
-            }
-        }
-        return n > 1;
-    }
-
     /** Every number up to 1030: taken if it is a prime up to 997, refused otherwise. */
     private static void primes() {
         Kneadery x = null;
@@ -51,9 +39,9 @@ public final class RemaindersTest {
             }
             Kneadery y = x;
             int prime = n;
-            if (isPrime(n) && n <= 997) {
+            if (RemainderOracle.isPrime(n) && n <= 997) {
                 CHECK.due(28, "0 stays by " + n, 1, () -> y.remainder(prime, 0, 0, true));
-                CHECK.due(29, "on cycles by " + n, onCycles(prime, 1), () -> y.onCycles(prime, 1));
+                CHECK.due(29, "on cycles by " + n, RemainderOracle.onCycles(prime, 1), () -> y.onCycles(prime, 1));
             } else {
                 CHECK.throwing(28, "remainder by " + n, Check.ARGUMENT, () -> y.remainder(prime, 0, 0, true));
                 CHECK.throwing(29, "onCycles by " + n, Check.ARGUMENT, () -> y.onCycles(prime, 0));
@@ -79,29 +67,9 @@ public final class RemaindersTest {
         CHECK.due(29, "by 3 and 2", 2, () -> x.onCycles(3, 2));
     }
 
-    /** The ahead and the period. */
-    private static int[] walk(int prime, int c, int x) {
-        Map<Integer, Integer> steps = new HashMap<>();
-        int at = x;
-        int n = 0;
-        while (!steps.containsKey(at)) {
-            steps.put(at, n++);
-            at = (at * at + c) % prime;
-        }
-        return new int[] {steps.get(at), n - steps.get(at)};
-    }
-
-    private static int onCycles(int prime, int c) {
-        int found = 0;
-        for (int x = 0; x < prime; x++) {
-            found += walk(prime, c, x)[0] == 0 ? 1 : 0;
-        }
-        return found;
-    }
-
     private static void smallPrimes() {
         for (int prime = 2; prime < 50; prime++) {
-            if (!isPrime(prime)) {
+            if (!RemainderOracle.isPrime(prime)) {
                 continue;
             }
             for (int c = 0; c < prime; c++) {
@@ -127,11 +95,12 @@ public final class RemaindersTest {
             compareOne(x, prime, c, from);
         }
         compareOne(x, prime, c, prime - 1);
-        CHECK.due(29, "onCycles(" + prime + ", " + c + ")", onCycles(prime, c), () -> x.onCycles(prime, c));
+        int want = RemainderOracle.onCycles(prime, c);
+        CHECK.due(29, "onCycles(" + prime + ", " + c + ")", want, () -> x.onCycles(prime, c));
     }
 
     private static void compareOne(Kneadery x, int prime, int c, int from) {
-        int[] walk = walk(prime, c, from);
+        int[] walk = RemainderOracle.walk(prime, c, from);
         String name = "remainder(" + prime + ", " + c + ", " + from + ")";
         CHECK.due(28, name + " ahead", walk[0], () -> x.remainder(prime, c, from, false));
         CHECK.due(28, name + " period", walk[1], () -> x.remainder(prime, c, from, true));

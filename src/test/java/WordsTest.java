@@ -24,15 +24,6 @@ public final class WordsTest {
         CHECK.end();
     }
 
-    /** The word as a text with its C. */
-    private static String text(int letters, int set) {
-        StringBuilder text = new StringBuilder();
-        for (int i = 0; i < letters; i++) {
-            text.append((set >> i & 1) == 1 ? 'R' : 'L');
-        }
-        return text.append('C').toString();
-    }
-
     private static int tell(Kneadery x, String text) {
         int set = 0;
         for (int i = 0; i < text.length() - 1; i++) {
@@ -87,7 +78,8 @@ public final class WordsTest {
             {24, 0b101100111000111101010011}, {24, 0x7f800001}, {23, Check.LOWEST}, {5, Check.HIGHEST}};
         for (int i = 0; i < told.length; i++) {
             x.word(told[i][0], told[i][1]);
-            dueText(16, "word(" + told[i][0] + ", " + told[i][1] + ")", x, i, text(told[i][0], told[i][1]));
+            String want = WordOracle.text(told[i][0], told[i][1]);
+            dueText(16, "word(" + told[i][0] + ", " + told[i][1] + ")", x, i, want);
         }
         int[] places = {-1, 25, Check.LOWEST, Check.HIGHEST};
         for (int place : places) {
@@ -121,32 +113,12 @@ public final class WordsTest {
         CHECK.due(15, "none of all that is kept", 1, () -> x.word(0, 0));
     }
 
-    private static int order(String one, String two) {
-        int signs = 1;
-        for (int i = 0; i < one.length() && i < two.length(); i++) {
-            if (one.charAt(i) != two.charAt(i)) {
-                return signs * Integer.compare("LCR".indexOf(one.charAt(i)), "LCR".indexOf(two.charAt(i)));
-            }
-            signs = one.charAt(i) == 'R' ? -signs : signs;
-        }
-        return 0;
-    }
-
-    private static boolean isGreatest(String word) {
-        for (int i = 1; i < word.length(); i++) {
-            if (order(word.substring(i), word) > 0) {
-                return false;
-            }
-        }
-        return true;
-    }
-
     /** All words of up to four letters, twenty at a time. */
     private static void compareAll() {
         List<String> all = new ArrayList<>();
         for (int letters = 0; letters <= 4; letters++) {
             for (int set = 0; set < 1 << letters; set++) {
-                all.add(text(letters, set));
+                all.add(WordOracle.text(letters, set));
             }
         }
         for (String one : all) {
@@ -159,8 +131,8 @@ public final class WordsTest {
                 Kneadery y = x;
                 String two = all.get(i);
                 int other = tell(y, two);
-                CHECK.due(17, "compare " + one + " " + two, order(one, two), () -> y.compare(0, other));
-                CHECK.due(17, "compare " + two + " " + one, order(two, one), () -> y.compare(other, 0));
+                CHECK.due(17, "compare " + one + " " + two, WordOracle.order(one, two), () -> y.compare(0, other));
+                CHECK.due(17, "compare " + two + " " + one, WordOracle.order(two, one), () -> y.compare(other, 0));
                 CHECK.due(17, "compare " + two + " to itself", 0, () -> y.compare(other, other));
             }
         }
@@ -175,12 +147,12 @@ public final class WordsTest {
             int set = numbers.between(0, (1 << letters) - 1);
             int otherLetters = i % 2 == 0 ? letters : numbers.between(10, 24);
             int other = set ^ (i % 3 == 0 ? 0 : 1 << numbers.between(0, 23));
-            String one = text(letters, set);
-            String two = text(otherLetters, other);
+            String one = WordOracle.text(letters, set);
+            String two = WordOracle.text(otherLetters, other);
             x.word(letters, set);
             x.word(otherLetters, other);
-            CHECK.due(17, "compare " + one + " " + two, order(one, two), () -> x.compare(0, 1));
-            CHECK.due(17, "compare " + two + " " + one, order(two, one), () -> x.compare(1, 0));
+            CHECK.due(17, "compare " + one + " " + two, WordOracle.order(one, two), () -> x.compare(0, 1));
+            CHECK.due(17, "compare " + two + " " + one, WordOracle.order(two, one), () -> x.compare(1, 0));
         }
     }
 
@@ -189,7 +161,8 @@ public final class WordsTest {
         for (String word : are) {
             Kneadery x = new Kneadery();
             tell(x, word);
-            CHECK.due(18, "isGreatest " + word, Check.one(isGreatest(word)), () -> Check.one(x.isGreatest(0)));
+            long want = Check.one(WordOracle.isGreatest(word));
+            CHECK.due(18, "isGreatest " + word, want, () -> Check.one(x.isGreatest(0)));
         }
         Kneadery x = new Kneadery();
         x.word(0, 0);
@@ -205,9 +178,10 @@ public final class WordsTest {
         for (int letters = 0; letters <= 10; letters++) {
             for (int set = 0; set < 1 << letters; set++) {
                 Kneadery y = new Kneadery();
-                String word = text(letters, set);
+                String word = WordOracle.text(letters, set);
                 y.word(letters, set);
-                CHECK.due(18, "isGreatest " + word, Check.one(isGreatest(word)), () -> Check.one(y.isGreatest(0)));
+                long want = Check.one(WordOracle.isGreatest(word));
+                CHECK.due(18, "isGreatest " + word, want, () -> Check.one(y.isGreatest(0)));
             }
         }
         Numbers numbers = new Numbers(8);
@@ -215,9 +189,10 @@ public final class WordsTest {
             Kneadery y = new Kneadery();
             int letters = numbers.between(11, 24);
             int set = numbers.between(0, 1 << 24) & (i % 2 == 0 ? -1 << 3 : -1) | (i % 2 == 0 ? 1 : 0);
-            String word = text(letters, set);
+            String word = WordOracle.text(letters, set);
             y.word(letters, set);
-            CHECK.due(18, "isGreatest " + word, Check.one(isGreatest(word)), () -> Check.one(y.isGreatest(0)));
+            long want = Check.one(WordOracle.isGreatest(word));
+            CHECK.due(18, "isGreatest " + word, want, () -> Check.one(y.isGreatest(0)));
         }
     }
 
@@ -226,27 +201,11 @@ public final class WordsTest {
         int[] due = {1, 1, 1, 2, 3, 5, 9, 16, 28, 51};
         for (int letters = 0; letters <= 9; letters++) {
             int k = letters;
-            int found = 0;
-            for (int set = 0; set < 1 << letters; set++) {
-                found += isGreatest(text(letters, set)) ? 1 : 0;
-            }
-            CHECK.due(19, "the test's own count of " + letters, due[k], () -> due[k]);
-            int own = found;
-            CHECK.due(19, "the test's own count of " + letters, due[k], () -> own);
+            CHECK.due(19, "the test's own count of " + letters, due[k], () -> WordOracle.count(k));
             CHECK.due(19, "count(" + letters + ")", due[k], () -> x.count(k));
             CHECK.due(20, "countAnew(" + letters + ")", due[k], () -> x.countAnew(k));
         }
         CHECK.due(15, "counting tells no words", 0, () -> x.word(1, 1));
-    }
-
-    private static String product(String one, String two) {
-        String block = one.substring(0, one.length() - 1);
-        boolean isOdd = block.replace("L", "").length() % 2 == 1;
-        StringBuilder text = new StringBuilder(block);
-        for (int i = 0; i < two.length() - 1; i++) {
-            text.append((two.charAt(i) == 'R') != isOdd ? 'R' : 'L').append(block);
-        }
-        return text.append('C').toString();
     }
 
     private static void productsByHand() {
@@ -269,7 +228,7 @@ public final class WordsTest {
                 Kneadery x = new Kneadery();
                 x.word(one, 0x5a5a5a);
                 x.word(two, 0x333333);
-                String want = product(text(one, 0x5a5a5a), text(two, 0x333333));
+                String want = WordOracle.product(WordOracle.text(one, 0x5a5a5a), WordOracle.text(two, 0x333333));
                 if (want.length() > 25) {
                     CHECK.throwing(21, "product of " + one + " and " + two, Check.STATE, () -> x.product(0, 1));
                     CHECK.due(21, "none is kept", 2, () -> x.word(0, 0));
@@ -291,26 +250,13 @@ public final class WordsTest {
             Kneadery x = new Kneadery();
             x.word(one, set);
             x.word(two, other);
-            String want = product(text(one, set), text(two, other));
-            CHECK.due(21, "product " + text(one, set) + " " + text(two, other), 2, () -> x.product(0, 1));
-            dueText(21, "product " + text(one, set) + " " + text(two, other), x, 2, want);
-            CHECK.due(22, "factor of " + want, factor(want), () -> x.factor(2));
+            String first = WordOracle.text(one, set);
+            String second = WordOracle.text(two, other);
+            String want = WordOracle.product(first, second);
+            CHECK.due(21, "product " + first + " " + second, 2, () -> x.product(0, 1));
+            dueText(21, "product " + first + " " + second, x, 2, want);
+            CHECK.due(22, "factor of " + want, WordOracle.factor(want), () -> x.factor(2));
         }
-    }
-
-    /** The least factor of a word by the document's words. */
-    private static int factor(String word) {
-        int n = word.length() - 1;
-        for (int f = 2; f < n + 1; f++) {
-            boolean isFactor = (n + 1) % f == 0;
-            for (int place = 1; place <= n && isFactor; place++) {
-                isFactor = place % f == 0 || word.charAt(place - 1) == word.charAt(place % f - 1);
-            }
-            if (isFactor) {
-                return f;
-            }
-        }
-        return Kneadery.NONE;
     }
 
     private static void factorsByHand() {
@@ -329,8 +275,8 @@ public final class WordsTest {
             for (int set = 0; set < 1 << letters; set++) {
                 Kneadery x = new Kneadery();
                 x.word(letters, set);
-                String word = text(letters, set);
-                CHECK.due(22, "factor of " + word, factor(word), () -> x.factor(0));
+                String word = WordOracle.text(letters, set);
+                CHECK.due(22, "factor of " + word, WordOracle.factor(word), () -> x.factor(0));
             }
         }
         Numbers numbers = new Numbers(33);
@@ -347,8 +293,8 @@ public final class WordsTest {
             set ^= i % 4 == 0 ? 1 << numbers.between(0, letters - 1) : 0;
             Kneadery x = new Kneadery();
             x.word(letters, set);
-            String word = text(letters, set);
-            CHECK.due(22, "factor of " + word, factor(word), () -> x.factor(0));
+            String word = WordOracle.text(letters, set);
+            CHECK.due(22, "factor of " + word, WordOracle.factor(word), () -> x.factor(0));
         }
     }
 
@@ -389,34 +335,18 @@ public final class WordsTest {
         for (int letters = 1; letters <= 9; letters++) {
             for (int set = 0; set < 1 << letters; set++) {
                 Kneadery x = new Kneadery();
-                String word = text(letters, set);
+                String word = WordOracle.text(letters, set);
                 x.pattern(21);
                 x.word(letters, set);
-                if (letters > 7 || !isGreatest(word)) {
+                if (letters > 7 || !WordOracle.isGreatest(word)) {
                     CHECK.throwing(23, "patternOf " + word, Check.STATE, () -> x.patternOf(0));
                     CHECK.due(23, "none is kept", 1, () -> x.pattern(21));
                 } else {
                     CHECK.due(23, "patternOf " + word, 1, () -> x.patternOf(0));
-                    CHECK.due(23, "images of " + word, imagesOf(word), () -> x.images(1));
+                    CHECK.due(23, "images of " + word, WordOracle.imagesOf(word), () -> x.images(1));
                     CHECK.due(23, "the word is as it was", 'R', () -> x.letter(0, 0));
                 }
             }
         }
-    }
-
-    private static int imagesOf(String word) {
-        List<String> points = new ArrayList<>();
-        for (int i = 0; i < word.length(); i++) {
-            int at = 0;
-            while (at < points.size() && order(points.get(at), word.substring(i)) < 0) {
-                at++;
-            }
-            points.add(at, word.substring(i));
-        }
-        int digits = 0;
-        for (String point : points) {
-            digits = digits * 10 + points.indexOf(point.equals("C") ? word : point.substring(1)) + 1;
-        }
-        return digits;
     }
 }
