@@ -3,12 +3,13 @@ import java.util.List;
 
 /**
  * Mixed runs of 512 calls, all promises together: each answer, and each exception, is that of the model. Most calls are
- * within their ranges, some at the ends of these, some just outside.
+ * within their ranges, some at the ends of these, some just outside. Then each call with all rows of extreme arguments.
  */
 public final class ModelTest {
     private static final Check CHECK = new Check();
     private static final int RUNS = 80;
     private static final int MOST_CALLS = 512;
+    private static final int[] EXTREMES = {Check.LOWEST, -1, 0, 1, 2, Check.HIGHEST};
     private static final List<Kind> KINDS = new ArrayList<>();
 
     interface Draw {
@@ -55,6 +56,9 @@ public final class ModelTest {
                     () -> Check.one(answered[kind.promise] > 100));
             CHECK.due(kind.promise, "the runs' own calls of " + kind.name + ", refused", 1,
                     () -> Check.one(thrown[kind.promise] > 100));
+        }
+        for (Kind kind : KINDS) {
+            extremes(kind);
         }
         CHECK.end();
     }
@@ -129,18 +133,65 @@ public final class ModelTest {
             boolean isOften = seed > RUNS / 4 && numbers.between(0, 2) == 0;
             Kind kind = KINDS.get(isOften ? often + numbers.between(0, 4) : numbers.between(0, KINDS.size() - 1));
             int[] a = kind.draw.from(drawn);
-            StringBuilder name = new StringBuilder("run " + seed + ", call " + call + ": " + kind.name);
-            for (int i : a) {
-                name.append(' ').append(i);
-            }
-            try {
-                long want = kind.model.call(model, a);
+            if (compare("run " + seed + ", call " + call, kind, x, model, a)) {
                 answered[kind.promise]++;
-                CHECK.due(kind.promise, name.toString(), want, () -> kind.program.call(x, a));
-            } catch (RuntimeException e) {
+            } else {
                 thrown[kind.promise]++;
-                CHECK.throwing(kind.promise, name.toString(), e.getClass(), () -> kind.program.call(x, a));
             }
+        }
+    }
+
+    /** Returns whether the model answers; it throws otherwise. */
+    private static boolean compare(String where, Kind kind, Kneadery x, Model model, int[] a) {
+        StringBuilder name = new StringBuilder(where + ": " + kind.name);
+        for (int i : a) {
+            name.append(' ').append(i);
+        }
+        try {
+            long want = kind.model.call(model, a);
+            CHECK.due(kind.promise, name.toString(), want, () -> kind.program.call(x, a));
+            return true;
+        } catch (RuntimeException e) {
+            CHECK.throwing(kind.promise, name.toString(), e.getClass(), () -> kind.program.call(x, a));
+            return false;
+        }
+    }
+
+    /** On new objects that are told a little, so that 0, 1 and 2 are there. */
+    private static void extremes(Kind kind) {
+        int arguments = kind.draw.from(new Drawn(new Numbers(1), new Model())).length;
+        int rows = 1;
+        for (int i = 0; i < arguments; i++) {
+            rows *= EXTREMES.length;
+        }
+        for (int row = 0; row < rows; row++) {
+            int[] a = new int[arguments];
+            int rest = row;
+            for (int i = 0; i < arguments; i++) {
+                a[i] = EXTREMES[rest % EXTREMES.length];
+                rest /= EXTREMES.length;
+            }
+            Kneadery x = new Kneadery();
+            Model model = new Model();
+            for (Kind told : KINDS) {
+                tellALittle(told, x, model);
+            }
+            compare("extreme", kind, x, model, a);
+        }
+    }
+
+    private static void tellALittle(Kind kind, Kneadery x, Model model) {
+        int[][] rows = {};
+        switch (kind.name) {
+            case "straight" -> rows = new int[][] {{}};
+            case "node" -> rows = new int[][] {{0, 0, 1, 0, 1}, {0, 1, 2, 2, 1}};
+            case "squared" -> rows = new int[][] {{-1, 1}};
+            case "pattern" -> rows = new int[][] {{231}, {21}, {3421}};
+            case "word" -> rows = new int[][] {{2, 1}, {24, 5}, {0, 0}};
+            default -> { }
+        }
+        for (int[] a : rows) {
+            compare("told", kind, x, model, a);
         }
     }
 }
