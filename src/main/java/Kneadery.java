@@ -911,9 +911,8 @@ public final class Kneadery {
                 number++;
                 at = Math.floorMod(isSquaring ? at * at + more : 2 * at, size);
             }
-            boolean isNewCycle = cameAs[at] >= first;
-            ahead = isNewCycle ? cameAs[at] - first : number - first;
-            period = isNewCycle ? number - cameAs[at] : 0;
+            period = cameAs[at] >= first ? number - cameAs[at] : 0;
+            ahead = number - first - period;
             return number;
         }
     }
